@@ -80,8 +80,9 @@ public final class ModelTests {
 
   private void makeRule() {
     if (plain.rules.size() >= mostRules) return;
-    int end = random.nextInt(3), beginning = random.nextInt(3);
-    write(word(0, 1) + word(end + beginning, end + beginning + (random.nextInt(4) == 0 ? 3 : 0)));
+    int longest = random.nextInt(3) == 0 ? 3 : 2;
+    int end = random.nextInt(longest + 1), beginning = random.nextInt(longest + 1);
+    write(word(end + beginning, end + beginning + (random.nextInt(3) == 0 ? 5 : 1)));
     int cost = pick(costs), first = pick(days), last = pick(days);
     if (withWrong && random.nextInt(20) == 0) end = pick(4);
     due("rule", bench.rule(end, beginning, cost, first, last), plain.rule(end, beginning, cost, first, last));
@@ -211,6 +212,8 @@ public final class ModelTests {
 
   public static void main(String[] args) {
     for (int seed = 0; seed < RUNS; seed++) new ModelTests(seed).run();
+    if (System.getProperty("show") != null)
+      System.out.println(partings + " " + cuts + " " + lefts + " " + many + " " + ruled + " " + treed);
     dueSome("partings", partings);
     dueSome("cut ones", cuts);
     dueSome("lines left uncut", lefts);

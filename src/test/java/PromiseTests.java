@@ -542,11 +542,19 @@ public final class PromiseTests {
     rule(between, "a", "b", "b", 1);
     rule(between, "", "b", "b", 1);
     rule(between, "", "b", "b", 0);
-    due("PLAIN, then rules by numbers", part(between, "aba", 0), 3);
+    due("rules by costs and numbers", part(between, "aba", 0), 3);
     dueTold(between, 0, "0/2/1");
     dueTold(between, 1, "2-1");
     dueTold(between, 2, "0/1/1");
     due("a rule costs", between.parting(2, 2), 1);
+    JoinBench plain = new JoinBench();
+    form(plain, "a", 0, 0);
+    form(plain, "xc", 0, 0);
+    form(plain, "bc", 0, 0);
+    rule(plain, "", "x", "b", 0);
+    due("PLAIN and a rule behind one form", part(plain, "abc", 0), 2);
+    dueTold(plain, 0, "0-2");
+    dueTold(plain, 1, "0/0/1");
   }
 
   private static void formOf() {
