@@ -1,98 +1,5 @@
 /** For each promise of the document its ordinary answers, its edges and wrong inputs, told out by hand. */
-public final class PromiseTests {
-  private static final int NONE = JoinBench.NONE;
-  private static final long MOST = 1000000000000000L;
-  private static final int LOW = Integer.MIN_VALUE, HIGH = Integer.MAX_VALUE;
-  private static int wrong = 0;
-  private static int promise = 0;
-
-  private static void due(String call, long got, long want) {
-    if (got == want) return;
-    wrong++;
-    System.out.println("promise " + promise + ": " + call + " answered " + got + ", due is " + want);
-  }
-
-  private static void due(String call, boolean got, boolean want) { due(call, got ? 1 : 0, want ? 1 : 0); }
-
-  private static void write(JoinBench x, String text) {
-    x.end(0);
-    for (int at = 0; at < text.length(); at += 20) {
-      int[] n = new int[5];
-      for (int i = 0; i < 20; i++)
-        n[i / 4] = n[i / 4] << 8 | (at + i < text.length() ? text.charAt(at + i) : 0);
-      x.feed(n[0], n[1], n[2], n[3], n[4]);
-    }
-    x.end(text.length());
-  }
-
-  private static int form(JoinBench x, String text, int kind, int stem, int cost, boolean kept) {
-    write(x, text);
-    return x.form(kind, stem, cost, kept);
-  }
-
-  private static int form(JoinBench x, String text, int kind, int cost) { return form(x, text, kind, 0, cost, false); }
-
-  private static int rule(JoinBench x, String end, String beginning, String comes, int cost, int first, int last) {
-    write(x, end + beginning + comes);
-    return x.rule(end.length(), beginning.length(), cost, first, last);
-  }
-
-  private static int rule(JoinBench x, String end, String beginning, String comes, int cost) {
-    return rule(x, end, beginning, comes, cost, 0, 999);
-  }
-
-  private static long part(JoinBench x, String line, int day) {
-    write(x, line);
-    return x.part(day);
-  }
-
-  private static String out(JoinBench x) {
-    StringBuilder text = new StringBuilder();
-    int size = x.joined();
-    for (int i = 0; i < size; i++) text.append((char) x.letter(i));
-    return text.toString();
-  }
-
-  private static void dueOut(String what, JoinBench x, String want) {
-    String got = out(x);
-    if (got.equals(want)) return;
-    wrong++;
-    System.out.println("promise " + promise + ": " + what + " gave " + got + ", due is " + want);
-  }
-
-  /** A parting told as its forms with what is between: "0-1" PLAIN, "0/2/1" by rule 2. */
-  private static void dueTold(JoinBench x, int k, String want) {
-    StringBuilder got = new StringBuilder();
-    for (int i = 0; i < x.parting(k, 1); i++) {
-      if (i > 0) got.append(x.ruleOf(k, i) == NONE ? "-" : "/" + x.ruleOf(k, i) + "/");
-      got.append(x.formOf(k, i));
-    }
-    if (got.toString().equals(want)) return;
-    wrong++;
-    System.out.println("promise " + promise + ": parting " + k + " is told as " + got + ", due is " + want);
-  }
-
-  /** Forms deva (0), alaya (1), devi (2), a (3, KEPT); rules a+a to a (0) on days 10 to 20, i+a to ya (1) always. */
-  private static JoinBench temple() {
-    JoinBench x = new JoinBench();
-    form(x, "deva", 0, 3, 5, false);
-    form(x, "alaya", 1, 4, 7, false);
-    form(x, "devi", 2, 3, 4, false);
-    form(x, "a", 5, 19, 0, true);
-    rule(x, "a", "a", "a", 3, 10, 20);
-    rule(x, "i", "a", "ya", 2, 0, 999);
-    return x;
-  }
-
-  /** So many forms "a", of kinds 0, 1, .. in turn, at no cost. */
-  private static JoinBench ayes(int forms, int kinds) {
-    JoinBench x = new JoinBench();
-    for (int i = 0; i < forms; i++) form(x, "a", i % kinds, 0);
-    return x;
-  }
-
-  private static String times(char letter, int count) { return String.valueOf(letter).repeat(count); }
-
+public final class PromiseTests extends Hand {
   private static void newObject() {
     JoinBench x = new JoinBench();
     due("NONE", JoinBench.NONE, -1);
@@ -745,7 +652,7 @@ public final class PromiseTests {
   }
 
   private static void run(int number) {
-    promise = number;
+    ofPromise(number);
     switch (number) {
       case 1: newObject(); break;
       case 2: feed(); break;
@@ -779,7 +686,7 @@ public final class PromiseTests {
 
   public static void main(String[] args) {
     for (int number = 1; number <= 27; number++) run(number);
-    System.out.println(wrong == 0 ? "all answers are as due" : wrong + " answers are not as due");
-    if (wrong != 0) System.exit(1);
+    System.out.println(wrong() == 0 ? "all answers are as due" : wrong() + " answers are not as due");
+    if (wrong() != 0) System.exit(1);
   }
 }
