@@ -645,6 +645,14 @@ public final class EdgeTests extends Hand {
       for (int bad : new int[] {LOW, -2, 2, 24, 31, 32, 33, 64, HIGH}) due("rule " + bad, x.joins(1, bad), NONE);
       due("the one that does", x.joins(1, 1), 2);
     });
+    edge(12, "the RULE doesn't FIT: one behind the last of 24", () -> {
+      JoinBench x = new JoinBench();
+      form(x, "ab", 0, 0);
+      for (int i = 0; i < 24; i++) rule(x, "b", "", "", 0);
+      x.joins(0, NONE);
+      for (int bad : new int[] {24, 25, 31, 32, 55}) due("rule " + bad, x.joins(0, bad), NONE);
+      due("the last", x.joins(0, 23), 2);
+    });
     edge(12, "the RULE doesn't FIT on its DAY", () -> {
       for (int day : new int[] {9, 10, 20, 21}) {
         JoinBench x = temple();
@@ -960,6 +968,51 @@ public final class EdgeTests extends Hand {
       due("behind", part(x, "abcdefgha", 0), 0);
       due("five times", part(x, "abcdefgh".repeat(5), 0), 1);
     });
+    edge(16, "END and BEGINNING of 3, what COMES of 4", () -> {
+      JoinBench x = new JoinBench();
+      form(x, "abcdefgh", 0, 0);
+      rule(x, "fgh", "abc", "wxyz", 0);
+      due("two", part(x, "abcdewxyzdefgh", 0), 1);
+      dueTold(x, 0, "0/0/0");
+      due("three", part(x, "abcdewxyzdewxyzdefgh", 0), 1);
+      dueTold(x, 0, "0/0/0/0/0");
+      due("one letter less that comes", part(x, "abcdewxydefgh", 0), 0);
+      due("one letter less at the beginning", part(x, "abcdewxyzefgh", 0), 0);
+    });
+    edge(16, "BEGINNINGS of 0 to 3 of one FORM", () -> {
+      JoinBench x = letters("q");
+      form(x, "abcd", 0, 0);
+      rule(x, "q", "", "r", 0);
+      rule(x, "", "a", "s", 0);
+      rule(x, "", "ab", "t", 0);
+      rule(x, "", "abc", "u", 0);
+      form(x, "pq", 0, 0);
+      String[] lines = {"prabcd", "pqsbcd", "pqtcd", "pqud"};
+      for (int i = 0; i < 4; i++) {
+        due(lines[i], part(x, lines[i], 0), 1);
+        dueTold(x, 0, "2/" + i + "/1");
+      }
+    });
+    edge(16, "ENDS of 0 to 3 of one FORM", () -> {
+      JoinBench x = new JoinBench();
+      form(x, "abcd", 0, 0);
+      form(x, "pq", 0, 0);
+      rule(x, "", "p", "r", 0);
+      rule(x, "d", "", "s", 0);
+      rule(x, "cd", "", "t", 0);
+      rule(x, "bcd", "", "u", 0);
+      String[] lines = {"abcdrq", "abcspq", "abtpq", "aupq"};
+      for (int i = 0; i < 4; i++) {
+        due(lines[i], part(x, lines[i], 0), 1);
+        dueTold(x, 0, "0/" + i + "/1");
+      }
+    });
+    edge(16, "a shorter LINE has nothing of a longer one", () -> {
+      JoinBench x = ayes(2, 1);
+      due("40", part(x, times('a', 40), 0), 1L << 40);
+      due("3", part(x, "aaa", 0), 8);
+      due("1", part(x, "a", 0), 2);
+    });
     edge(16, "40 FORMS and 24 RULES: the last ones count as the first", () -> {
       JoinBench x = ayes(39, 1);
       form(x, "ba", 0, 0);
@@ -1198,6 +1251,39 @@ public final class EdgeTests extends Hand {
       dueTold(x, 1, "0");
       due("less", x.parting(1, 2), 1);
     });
+    edge(18, "RULES cost, too: a cheap one goes ahead of a dear one", () -> {
+      JoinBench x = new JoinBench();
+      form(x, "ab", 0, 1);
+      for (int i = 0; i < 10; i++) rule(x, "b", "", "b", 20 - i);
+      due("part", part(x, "ababab", 0), 100);
+      String[] want = {"9/0/9", "8/0/9", "9/0/8", "7/0/9", "8/0/8", "9/0/7", "6/0/9", "7/0/8"};
+      int[] costs = {25, 26, 26, 27, 27, 27, 28, 28};
+      for (int k = 0; k < 8; k++) {
+        dueTold(x, k, "0/" + want[k] + "/0");
+        due("cost", x.parting(k, 0), costs[k]);
+      }
+    });
+    edge(18, "a dear beginning with a cheap end among eight: not lost", () -> {
+      JoinBench x = new JoinBench();
+      for (int i = 0; i < 9; i++) form(x, "a", 0, 1);
+      form(x, "ab", 0, 9);
+      form(x, "bc", 0, 20);
+      form(x, "c", 0, 0);
+      due("part", part(x, "abc", 0), 10);
+      dueTold(x, 0, "9-11");
+      for (int k = 1; k < 8; k++) dueTold(x, k, k - 1 + "-10");
+      due("less", x.parting(1, 2), 12);
+    });
+    edge(18, "ROWS of few and of many FORMS among one another", () -> {
+      JoinBench x = new JoinBench();
+      form(x, "aaaaaaaa", 0, 8);
+      form(x, "aaaa", 0, 4);
+      form(x, "aa", 0, 2);
+      form(x, "a", 0, 1);
+      due("part", part(x, times('a', 8), 0), 56);
+      String[] want = {"0", "1-1", "1-2-2", "1-2-3-3", "1-3-2-3", "1-3-3-2", "1-3-3-3-3", "2-1-2"};
+      for (int k = 0; k < 8; k++) dueTold(x, k, want[k]);
+    });
     edge(18, "CUT ones are not told", () -> {
       JoinBench x = ayes(2, 2);
       x.meets(0, 0, false);
@@ -1340,6 +1426,16 @@ public final class EdgeTests extends Hand {
       due("two ways", x.trees(0, 0), 2);
       x.becomes(0, 0, NONE);
       due("no way", x.trees(0, 0), 0);
+    });
+    edge(21, "NONE in the table is no KIND, nor the last one", () -> {
+      JoinBench x = new JoinBench();
+      form(x, "a", 1, 0);
+      form(x, "b", 2, 0);
+      form(x, "c", 3, 0);
+      x.becomes(2, 3, 0);
+      x.becomes(5, 0, 4);
+      part(x, "abc", 0);
+      for (int kind = 0; kind < 6; kind++) due("kind " + kind, x.trees(0, kind), 0);
     });
     edge(21, "MEETING is of no matter for TREES", () -> {
       JoinBench x = ayes(1, 1);

@@ -7,10 +7,11 @@ import java.util.Random;
 public final class ModelTests {
   private static final int RUNS = 800;
   private static final int CALLS = 6000;
-  private static final int[] WRONG = {Integer.MIN_VALUE, -3, -2, -1, 40, 41, 999, 1000, Integer.MAX_VALUE};
+  private static final int[] WRONG = {Integer.MIN_VALUE, -3, -2, -1, 5, 6, 8, 19, 20, 21, 23, 24, 31, 32, 39, 40, 41, 99,
+      100, 999, 1000, Integer.MAX_VALUE};
 
   private static int wrong = 0;
-  private static long partings = 0, cuts = 0, lefts = 0, many = 0, ruled = 0, treed = 0;
+  private static long partings = 0, cuts = 0, lefts = 0, many = 0, ruled = 0, treed = 0, fulls = 0;
 
   private final int seed;
   private final Random random;
@@ -23,10 +24,12 @@ public final class ModelTests {
   private ModelTests(int seed) {
     this.seed = seed;
     random = new Random(seed);
-    alphabet = 1 + random.nextInt(3);
-    mostForms = 2 + random.nextInt(5);
-    mostRules = random.nextInt(6);
-    mostLine = alphabet == 1 ? 6 : 9;
+    // Some tongues are filled to their limits, and beyond; their lines are short, or there would be too many rows to try.
+    boolean full = seed % 10 == 9;
+    alphabet = full ? 4 : 1 + random.nextInt(3);
+    mostForms = full ? 45 : 2 + random.nextInt(5);
+    mostRules = full ? 30 : random.nextInt(6);
+    mostLine = full ? 3 : alphabet == 1 ? 6 : 9;
     costs = random.nextInt(3) == 0 ? 1 : random.nextInt(2) == 0 ? 3 : 100;
     days = 1 + random.nextInt(4);
     withWrong = random.nextInt(3) > 0;
@@ -187,6 +190,11 @@ public final class ModelTests {
   }
 
   private void run() {
+    for (int i = 0; i < 60 && mostForms > 40; i++) {
+      makeForm();
+      makeRule();
+    }
+    if (plain.forms.size() == 40 && plain.rules.size() == 24) fulls++;
     while (calls < CALLS) {
       switch (random.nextInt(14)) {
         case 0: case 1: makeForm(); break;
@@ -205,7 +213,7 @@ public final class ModelTests {
   }
 
   private static void dueSome(String what, long seen) {
-    if (seen >= 100) return;
+    if (seen >= 50) return;
     wrong++;
     System.out.println("the runs showed too little of " + what + ": " + seen);
   }
@@ -213,13 +221,14 @@ public final class ModelTests {
   public static void main(String[] args) {
     for (int seed = 0; seed < RUNS; seed++) new ModelTests(seed).run();
     if (System.getProperty("show") != null)
-      System.out.println(partings + " " + cuts + " " + lefts + " " + many + " " + ruled + " " + treed);
+      System.out.println(partings + " " + cuts + " " + lefts + " " + many + " " + ruled + " " + treed + " " + fulls);
     dueSome("partings", partings);
     dueSome("cut ones", cuts);
     dueSome("lines left uncut", lefts);
     dueSome("more than eight", many);
     dueSome("rules between", ruled);
     dueSome("several trees", treed);
+    dueSome("full tongues", fulls);
     System.out.println(wrong == 0 ? "all answers are as due" : wrong + " answers are not as due");
     if (wrong != 0) System.exit(1);
   }
