@@ -1408,6 +1408,24 @@ public final class EdgeTests extends Hand {
       due("40 forms", x.trees(0, 0), MOST);
       due("another kind", x.trees(0, 1), 0);
     });
+    edge(21, "1000000000000000 at most: a product right below it is told as it is", () -> {
+      JoinBench x = new JoinBench();
+      for (int kind = 0; kind < 4; kind++) form(x, String.valueOf((char) ('a' + kind)), kind, 0);
+      for (int side = 0; side <= 2; side += 2) {
+        x.becomes(side, side, side + 1);
+        x.becomes(side, side + 1, side + 1);
+        x.becomes(side + 1, side, side);
+        x.becomes(side + 1, side + 1, side + 1);
+      }
+      x.becomes(0, 2, 4);
+      String first = "bbabaabbbbaababbaa", second = "dcdddddccddccccccc";
+      due("first", part(x, first, 0), 1);
+      due("first's trees", x.trees(0, 0), 21062558L);
+      due("second", part(x, second, 0), 1);
+      due("second's trees", x.trees(0, 2), 47477614L);
+      due("both", part(x, first + second, 0), 1);
+      due("their product", x.trees(0, 4), 999999998576612L);
+    });
     edge(21, "at most in all that is told of one KIND", () -> {
       JoinBench x = ayes(1, 1);
       x.becomes(0, 0, 1);
